@@ -629,25 +629,20 @@ public final class SealLine {
         }
 
         private boolean isCleanInput(int input) {
-            return input == NONE || isClean(input);
+            return input == NONE || clean.has(input);
         }
 
         void cleanBy(Table notes, int note) {
             boolean more = addClean(notes, note);
             // each pass but the last makes a FILE CLEAN, and none ceases to be so
             for (int pass = 0; pass < MOST_FILES && more; pass++) {
-                more = spreadClean(notes);
-            }
-        }
-
-        private boolean spreadClean(Table notes) {
-            boolean more = false;
-            for (int note = 0; note < notes.size(); note++) {
-                if (addClean(notes, note)) {
-                    more = true;
+                more = false;
+                for (int i = 0; i < notes.size(); i++) {
+                    if (addClean(notes, i)) {
+                        more = true;
+                    }
                 }
             }
-            return more;
         }
 
         private boolean addClean(Table notes, int note) {
@@ -972,21 +967,17 @@ public final class SealLine {
             int sign = test / 100 % 3;
             int number = test % 100;
             if (letter == 0) {
-                return triesBySign(sign, number);
+                int below = triesBelow(number);
+                int notAbove = triesBelow(number + 1);
+                return sign == 0 ? notAbove & ~below : sign == 1 ? below : ALL_TRIES & ~notAbove;
             }
             int value = letter == 1 ? r : b;
             boolean holds = sign == 0 ? value == number : sign == 1 ? value < number : value > number;
             return holds ? ALL_TRIES : 0;
         }
 
-        private static int triesBySign(int sign, int number) {
-            int below = triesBelow(number);
-            int notAbove = triesBelow(number + 1);
-            return sign == 0 ? notAbove & ~below : sign == 1 ? below : ALL_TRIES & ~notAbove;
-        }
-
         private static int triesBelow(int number) {
-            return (1 << Math.min(number, HANDS + 1)) - 1;
+            return number > HANDS ? ALL_TRIES : (1 << number) - 1;
         }
     }
 

@@ -167,7 +167,10 @@ public final class PromiseTest {
         due("build() of what went into c", x.build(3, 0, 3, 3, 2, 10L), NONE);
         due("build() of a source", x.build(3, 0, 3, NONE, NONE, 10L), 0);
         due("rows grow behind it", x.file(2, 5), 4);
+        due("build() with c", x.build(5, 0, 0, 0, 1, 66L), 4);
+        due("its row with c", x.file(4, 5), 4);
         due("and so do makers", x.file(1, 6), 0b11011);
+        due("makers by c", x.file(4, 6), 0b111011);
         due("build() in a ring", x.build(3, 0, 2, NONE, NONE, 88L), NONE);
         dueWrongBuilds(x);
         fillFiles(x);
@@ -182,8 +185,8 @@ public final class PromiseTest {
         int before = x.count(0);
         int[][] wrong = {
             {-1, 0, 0, -1, -1}, {12, 0, 0, -1, -1}, {0, -1, 0, -1, -1}, {0, 6, 0, -1, -1},
-            {0, 0, -1, -1, -1}, {0, 0, 4, -1, -1}, {0, 0, 0, -2, -1}, {0, 0, 0, 4, -1},
-            {0, 0, 0, -1, 0}, {0, 0, 0, 0, -2}, {0, 0, 0, 0, 4}, {0, 0, -1, 0, 0},
+            {0, 0, -1, -1, -1}, {0, 0, 5, -1, -1}, {0, 0, 0, -2, -1}, {0, 0, 0, 5, -1},
+            {0, 0, 0, -1, 0}, {0, 0, 0, 0, -2}, {0, 0, 0, 0, 5}, {0, 0, -1, 0, 0},
             {FAR, 0, 0, -1, -1}, {0, FAR_BELOW, 0, -1, -1}, {0, 0, FAR, -1, -1}, {0, 0, 0, 0, FAR_BELOW},
         };
         for (int[] w : wrong) {
@@ -492,6 +495,9 @@ public final class PromiseTest {
         x.finish(1);
         due("lose() of an ended one, called back", x.lose(1, 0), 1);
         due("lose(3, 0)", x.lose(3, 0), 0);
+        SealLine first = readyToSeal(1);
+        first.seal(1, 2, 0);
+        due("lose() of the first seal's key", first.lose(0, 1), 1);
     }
 
     private static void promise18() {
@@ -528,6 +534,36 @@ public final class PromiseTest {
         due("recall 51", many.recall(0, 0, 0), NONE);
         due("recall 51 of a tool", many.recall(1, 2, 0), NONE);
         due("nothing came of it", many.count(7), 1);
+        SealLine tools = withTwoFiles();
+        for (int i = 0; i < 50; i++) {
+            due("recall() of fifty tools and hands", tools.recall(1 + i % 2, 5, i), 0);
+        }
+        due("recall 51 of a file", tools.recall(0, 0, 0), NONE);
+        due("recall 51 of a hand", tools.recall(2, 0, 0), NONE);
+        SealLine full = new SealLine();
+        full.source(0, 1L);
+        fillNotes(full, 398);
+        full.recall(2, 1, 399);
+        full.recall(2, 2, 400);
+        full.source(1, 2L);
+        full.source(2, 3L);
+        due("the last notes are not called back", full.count(7), 0);
+        due("the last tick", full.recall(2, 2, 399), 1);
+        SealLine last = new SealLine();
+        last.source(0, 1L);
+        fillNotes(last, 399);
+        last.recall(1, 0, 399);
+        last.recall(1, 1, 400);
+        last.recall(2, 4, 399);
+        last.build(3, 2, 0, NONE, NONE, 2L);
+        due("note 400 of another tool and hand", last.count(7), 0);
+        due("note 400 of its tool", last.recall(1, 2, 399), 1);
+        due("and since an earlier tick", last.recall(1, 2, 0), 1);
+        SealLine twice = withTwoFiles();
+        twice.recall(2, 7, 2);
+        twice.recall(2, 7, 300);
+        twice.source(7, 20L);
+        due("the earlier tick counts", twice.count(7), 1);
     }
 
     private static void promise19() {
@@ -564,6 +600,43 @@ public final class PromiseTest {
         due("not clean yet", late.file(2, 0) + late.file(3, 0), 0);
         late.source(5, 55L);
         due("clean by what came later", late.file(2, 0) + late.file(3, 0), 2);
+        dueCleanAgainstTheOrder();
+        dueLongRow();
+    }
+
+    /** Each FILE of a chain is there by a BUILD that does not meet, and the ends of the chain are built first. */
+    private static void dueCleanAgainstTheOrder() {
+        SealLine x = new SealLine();
+        x.source(0, 1L);
+        x.build(0, 0, 0, NONE, NONE, 55L);
+        for (int file = 1; file < 9; file++) {
+            x.build(0, 1, 0, NONE, NONE, x.mix(0, file, NONE, NONE));
+        }
+        for (int file = 9; file > 1; file--) {
+            due("build() of the chain", x.build(1, 0, file - 1, NONE, NONE, x.hash(file)), file);
+        }
+        due("no end is clean yet", x.file(9, 0), 0);
+        x.source(0, 55L);
+        for (int file = 1; file <= 9; file++) {
+            due("clean through the chain", x.file(file, 0), 1);
+        }
+    }
+
+    private static void dueLongRow() {
+        SealLine x = new SealLine();
+        x.source(3, 1L);
+        for (int file = 1; file < 100; file++) {
+            x.build(4, 0, file - 1, NONE, NONE, x.mix(0, file - 1, NONE, NONE));
+            due("row of a long chain", x.file(file, 5), file + 1);
+        }
+        due("makers of a long chain", x.file(99, 6), 0b11000);
+        due("the chain is clean", x.file(99, 0), 1);
+        due("a ring through the chain", x.build(4, 0, 99, NONE, NONE, x.hash(64)), NONE);
+        due("proof of the chain", x.proof(99, 99), 99);
+        due("called back from within", x.recall(0, 64, 0), 36);
+        x.source(5, x.hash(70));
+        due("a maker far down", x.file(99, 6), 0b111000);
+        due("no maker further down", x.file(69, 6), 0b11000);
     }
 
     private static void promise20() {
@@ -656,6 +729,8 @@ public final class PromiseTest {
         {"b=2|t=4", 4, 1}, {"b=3|t=5", 5, 1}, {"b=3|t=6", 5, 3}, {"b>1&r>2&t>8", 9, 2},
         {"(b=2|b=3)&(t=6|r=3)", 5, 2}, {"t=1&t=2", NONE, NONE}, {"t=1&t=2|r=5", 6, 1},
         {"t=1&(t=2|r=5)", 6, 1}, {"t>00&b<01", 3, 1}, {"t=1|t=2&t=3", 3, 1}, {"(t=1|t=2)&t=3", NONE, NONE},
+        {"((((((((t=4))))))))", 4, 1}, {"((((((((t=5|r=9))))))))&b=3", 5, 3}, {"t=9|t=7|t=8", 7, 1},
+        {"(t=9)&(t=9|t=8)|((((((((r=5|b=9))))))))", 6, 1}, {"r<1&b<1", 3, 1}, {"r<4&r>2", 4, 1}, {"b<3&b>1", 4, 2},
     };
 
     private static void promise24() {
@@ -703,9 +778,12 @@ public final class PromiseTest {
         x.source(6, 60L);
         x.build(7, 0, 2, 1, 2, x.mix(0, 2, 1, 2));
         dueProof(x, 3, 0, 1, 4, 5);
+        dueProof(x, 0, 0);
+        x.build(7, 0, 2, 2, 1, x.mix(0, 2, 2, 1));
+        dueProof(x, 4, 0, 1, 4, 6);
         due("proof(3, -1)", x.proof(3, -1), NONE);
         due("proof(3, far)", x.proof(3, FAR), NONE);
-        due("proof(4, 0)", x.proof(4, 0), NONE);
+        due("proof(5, 0)", x.proof(5, 0), NONE);
         due("proof(-1, 0)", x.proof(-1, 0), NONE);
         SealLine late = new SealLine();
         late.source(0, 1L);
@@ -748,6 +826,8 @@ public final class PromiseTest {
         due("called(1) of 100", full.called(1), 64);
         due("called(2) of 100", full.called(2), 99);
         due("called(3) of 100", full.called(3), NONE);
+        full.recall(0, 0, 0);
+        due("called(0) is file 0", full.called(0), 0);
     }
 
     private static void promise28() {
