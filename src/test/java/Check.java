@@ -24,9 +24,13 @@ final class Check {
         due(call, got ? 1L : 0L, want ? 1L : 0L);
     }
 
+    boolean passed() {
+        return wrong == 0 && asked != 0;
+    }
+
     void finish() {
         System.out.println(name + ": " + asked + " answers, " + wrong + " not as due");
-        if (wrong != 0 || asked == 0) {
+        if (!passed()) {
             System.exit(1);
         }
     }

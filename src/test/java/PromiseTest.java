@@ -1,8 +1,8 @@
 /** One method for each promise: ordinary inputs, the edges that the document names, and wrong inputs. */
 public final class PromiseTest {
     private static final int NONE = SealLine.NONE;
-    private static final int FAR = Integer.MAX_VALUE;
-    private static final int FAR_BELOW = Integer.MIN_VALUE;
+    private static final int FAR = Lines.FAR;
+    private static final int FAR_BELOW = Lines.FAR_BELOW;
     private static final Check CHECK = new Check("PromiseTest");
 
     private PromiseTest() {
@@ -49,56 +49,17 @@ public final class PromiseTest {
         CHECK.due(call, got, want);
     }
 
-    private static void feedText(SealLine x, String text) {
-        for (int from = 0; from < text.length(); from += 4) {
-            int word = 0;
-            for (int at = from; at < from + 4; at++) {
-                word = word << 8 | (at < text.length() ? text.charAt(at) : 0);
-            }
-            x.feed(word);
-        }
-    }
-
     private static SealLine withRule(String text) {
         SealLine x = new SealLine();
-        feedText(x, text);
+        Lines.feedText(x, text);
         due("rule() of " + text, x.rule(), 0);
         return x;
     }
 
     private static void dueFault(String text, int want) {
         SealLine x = new SealLine();
-        feedText(x, text);
+        Lines.feedText(x, text);
         due("fault() of '" + text + "'", x.fault(), want);
-    }
-
-    /** FILE 0 of HAND 0, FILE 1 built of it by HAND 1 with TOOL 2, both CLEAN. */
-    private static SealLine withTwoFiles() {
-        SealLine x = new SealLine();
-        x.source(0, 10L);
-        x.build(1, 2, 0, NONE, NONE, x.mix(2, 0, NONE, NONE));
-        return x;
-    }
-
-    /** FILE 0 of HAND 0 asked for, KEY 0 with some uses. */
-    private static SealLine readyToSeal(int uses) {
-        SealLine x = new SealLine();
-        x.source(0, 10L);
-        x.ask(0);
-        x.uses(0, uses);
-        return x;
-    }
-
-    private static void fillNotes(SealLine x, int upTo) {
-        for (int note = x.count(0); note < upTo; note++) {
-            x.tries(11, 0, false);
-        }
-    }
-
-    private static void fillFiles(SealLine x) {
-        for (int file = x.count(1); file < 100; file++) {
-            due("source() of a new file", x.source(file % 12, 5000L + file), file);
-        }
     }
 
     private static void promise1() {
@@ -138,21 +99,21 @@ public final class PromiseTest {
             due("source(" + hand + ", 9)", x.source(hand, 9L), NONE);
         }
         due("nothing came of it", x.count(0) * 100 + x.count(1), 403);
-        fillFiles(x);
+        Lines.fillFiles(x);
         due("source() of file 101", x.source(0, 9L), NONE);
         due("source() of one of 100", x.source(0, 5099L), 99);
-        fillNotes(x, 400);
+        Lines.fillNotes(x, 400);
         due("source() as note 401", x.source(0, 5L), NONE);
         SealLine full = new SealLine();
         full.source(0, 1L);
-        fillNotes(full, 399);
+        Lines.fillNotes(full, 399);
         due("source() as note 400", full.source(0, 2L), 1);
         due("source() of a new file as note 401", full.source(0, 3L), NONE);
         due("no file came of it", full.count(1), 2);
     }
 
     private static void promise3() {
-        SealLine x = withTwoFiles();
+        SealLine x = Lines.withTwoFiles();
         due("build() that does not meet", x.build(2, 5, 0, 1, 0, 77L), 2);
         due("its inputs: a", x.note(2, 4), 0);
         due("its inputs: b", x.note(2, 5), 1);
@@ -173,10 +134,10 @@ public final class PromiseTest {
         due("makers by c", x.file(4, 6), 0b111011);
         due("build() in a ring", x.build(3, 0, 2, NONE, NONE, 88L), NONE);
         dueWrongBuilds(x);
-        fillFiles(x);
+        Lines.fillFiles(x);
         due("build() of file 101", x.build(0, 0, 0, NONE, NONE, 9L), NONE);
         due("build() of one of 100", x.build(0, 0, 0, NONE, NONE, 5099L), 99);
-        fillNotes(x, 399);
+        Lines.fillNotes(x, 399);
         due("build() as note 400", x.build(0, 0, 0, NONE, NONE, 5098L), 98);
         due("build() as note 401", x.build(0, 0, 0, NONE, NONE, 5097L), NONE);
     }
@@ -216,7 +177,7 @@ public final class PromiseTest {
     }
 
     private static void promise5() {
-        SealLine x = withTwoFiles();
+        SealLine x = Lines.withTwoFiles();
         due("tries(0, 1, true)", x.tries(0, 1, true), 2);
         due("tries(11, 1, true)", x.tries(11, 1, true), 3);
         due("t, makers too", x.file(1, 2), 2);
@@ -230,14 +191,14 @@ public final class PromiseTest {
         due("tries(-1, 1, true)", x.tries(-1, 1, true), NONE);
         due("tries(0, 2, true)", x.tries(0, 2, true), NONE);
         due("tries(0, -1, true)", x.tries(0, -1, true), NONE);
-        fillNotes(x, 399);
+        Lines.fillNotes(x, 399);
         due("tries() as note 400", x.tries(0, 0, true), 399);
         due("tries() as note 401", x.tries(1, 0, true), NONE);
         due("t unmoved by it", x.file(0, 2), 1);
     }
 
     private static void promise6() {
-        SealLine x = withTwoFiles();
+        SealLine x = Lines.withTwoFiles();
         due("review(5, 1, true)", x.review(5, 1, true), 2);
         due("review(0, 1, true) of a maker", x.review(0, 1, true), 3);
         due("r without makers", x.file(1, 3), 1);
@@ -253,7 +214,7 @@ public final class PromiseTest {
         due("review(-1, 1, true)", x.review(-1, 1, true), NONE);
         due("review(0, 2, true)", x.review(0, 2, true), NONE);
         due("review(0, -1, true)", x.review(0, -1, true), NONE);
-        fillNotes(x, 399);
+        Lines.fillNotes(x, 399);
         due("review() as note 400", x.review(3, 0, true), 399);
         due("review() as note 401", x.review(4, 0, true), NONE);
         due("r unmoved by it", x.file(0, 3), 2);
@@ -283,7 +244,7 @@ public final class PromiseTest {
         SealLine x = new SealLine();
         due("end(0) of none", x.end(0), true);
         due("end(1) of none", x.end(1), false);
-        feedText(x, "t=1&");
+        Lines.feedText(x, "t=1&");
         due("end(5)", x.end(5), false);
         due("end(-1)", x.end(-1), false);
         due("end(far)", x.end(FAR), false);
@@ -294,7 +255,7 @@ public final class PromiseTest {
         due("its length", x.count(5), 3);
         due("end(4) then", x.end(4), false);
         due("its fault", x.fault(), NONE);
-        feedText(x, "2");
+        Lines.feedText(x, "2");
         due("feed() goes on there", x.count(5), 4);
         due("t=12", x.fault(), NONE);
     }
@@ -314,7 +275,7 @@ public final class PromiseTest {
             dueFault((String) row[0], (Integer) row[1]);
         }
         SealLine x = new SealLine();
-        feedText(x, "t=1");
+        Lines.feedText(x, "t=1");
         x.fault();
         due("fault() leaves the tape", x.count(5), 3);
     }
@@ -322,18 +283,18 @@ public final class PromiseTest {
     private static void promise10() {
         SealLine x = new SealLine();
         due("rule() of none", x.rule(), NONE);
-        feedText(x, "t=1&");
+        Lines.feedText(x, "t=1&");
         due("rule() with a fault", x.rule(), NONE);
         due("the tape is left", x.count(5), 4);
-        feedText(x, "r=1");
+        Lines.feedText(x, "r=1");
         due("rule()", x.rule(), 0);
         due("the tape is empty", x.count(5), 0);
         due("one rule", x.count(2), 1);
         for (int i = 1; i < 20; i++) {
-            feedText(x, "t=0");
+            Lines.feedText(x, "t=0");
             due("rule() again", x.rule(), i);
         }
-        feedText(x, "t=1");
+        Lines.feedText(x, "t=1");
         due("rule 21", x.rule(), NONE);
         due("the tape is left there", x.count(5), 3);
         due("twenty rules", x.count(2), 20);
@@ -341,7 +302,7 @@ public final class PromiseTest {
     }
 
     private static void promise11() {
-        SealLine x = withTwoFiles();
+        SealLine x = Lines.withTwoFiles();
         due("ask(1)", x.ask(1), 0);
         due("ask(0)", x.ask(0), 1);
         due("ask(1) twice", x.ask(1), NONE);
@@ -354,14 +315,14 @@ public final class PromiseTest {
         due("ask(1) again", x.ask(1), 1);
         due("ask() is no note", x.count(0), 2);
         SealLine full = new SealLine();
-        fillFiles(full);
+        Lines.fillFiles(full);
         for (int file = 99; file >= 0; file--) {
             due("ask() of a hundred", full.ask(file), 99 - file);
         }
     }
 
     private static void promise12() {
-        SealLine x = withTwoFiles();
+        SealLine x = Lines.withTwoFiles();
         due("skip() of none", x.skip(), NONE);
         x.ask(1);
         x.ask(0);
@@ -374,7 +335,7 @@ public final class PromiseTest {
     }
 
     private static void promise13() {
-        SealLine x = withTwoFiles();
+        SealLine x = Lines.withTwoFiles();
         due("seal() of none", x.seal(5, 6, 0), NONE);
         x.ask(1);
         x.ask(0);
@@ -392,8 +353,8 @@ public final class PromiseTest {
         x.uses(2, 1);
         due("sealed again", x.seal(5, 6, 2), 2);
         due("three seals stand", x.count(6), 3);
-        SealLine full = readyToSeal(2);
-        fillNotes(full, 399);
+        SealLine full = Lines.readyToSeal(2);
+        Lines.fillNotes(full, 399);
         due("seal() as note 400", full.seal(1, 2, 0), 0);
         full.ask(0);
         due("seal() as note 401", full.seal(1, 2, 0), NONE);
@@ -417,22 +378,22 @@ public final class PromiseTest {
         }
         x.uses(0, 1);
         x.recall(0, 0, 0);
-        feedText(x, "t>0");
+        Lines.feedText(x, "t>0");
         x.rule();
         due("why() 5", x.why(5, 6, 0), 5);
         x.source(1, 77L);
         due("why() 6", x.why(5, 6, 0), 6);
         x.tries(2, 1, true);
         due("why() 7", x.why(5, 6, 0), 7);
-        fillNotes(x, 400);
+        Lines.fillNotes(x, 400);
         due("why() 7 ahead of 8", x.why(5, 6, 0), 7);
         x.finish(0);
         due("why() 4, ended", x.why(5, 6, 0), 4);
-        SealLine full = readyToSeal(1);
-        fillNotes(full, 399);
+        SealLine full = Lines.readyToSeal(1);
+        Lines.fillNotes(full, 399);
         due("why() 0", full.why(1, 2, 0), 0);
         due("why() does nothing", full.count(0), 399);
-        fillNotes(full, 400);
+        Lines.fillNotes(full, 400);
         due("why() 8", full.why(1, 2, 0), 8);
         full.lose(0, 400);
         due("why() 4, lost", full.why(1, 2, 0), 4);
@@ -466,14 +427,14 @@ public final class PromiseTest {
         x.lose(1, 0);
         due("finish() of a lost one", x.finish(1), false);
         due("it is not ended", x.key(1, 1), 0);
-        SealLine y = readyToSeal(2);
+        SealLine y = Lines.readyToSeal(2);
         y.seal(1, 2, 0);
         y.finish(0);
         due("its seal stands", y.sealed(0, 6), 1);
     }
 
     private static void promise17() {
-        SealLine x = readyToSeal(10);
+        SealLine x = Lines.readyToSeal(10);
         x.uses(1, 10);
         x.seal(1, 2, 0);
         x.ask(0);
@@ -495,13 +456,13 @@ public final class PromiseTest {
         x.finish(1);
         due("lose() of an ended one, called back", x.lose(1, 0), 1);
         due("lose(3, 0)", x.lose(3, 0), 0);
-        SealLine first = readyToSeal(1);
+        SealLine first = Lines.readyToSeal(1);
         first.seal(1, 2, 0);
         due("lose() of the first seal's key", first.lose(0, 1), 1);
     }
 
     private static void promise18() {
-        SealLine x = withTwoFiles();
+        SealLine x = Lines.withTwoFiles();
         x.source(1, 99L);
         x.build(3, 4, 2, NONE, NONE, 98L);
         for (int[] w : new int[][] {{-1, 0, 0}, {3, 0, 0}, {0, 4, 0}, {0, -1, 0}, {1, 6, 0}, {1, -1, 0},
@@ -513,7 +474,7 @@ public final class PromiseTest {
         due("recall(2, 1, 400)", x.recall(2, 1, 400), 1);
         due("recall(2, 1, 2): a source", x.recall(2, 1, 2), 2);
         due("recall(0, 0, far)", x.recall(0, 0, FAR), 4);
-        SealLine y = withTwoFiles();
+        SealLine y = Lines.withTwoFiles();
         due("recall(2, 9, 3)", y.recall(2, 9, 3), 0);
         due("recall(1, 5, 0)", y.recall(1, 5, 0), 0);
         y.source(9, 50L);
@@ -527,14 +488,14 @@ public final class PromiseTest {
         due("tries and reviews are not made", y.file(0, 1), 0);
         y.build(0, 0, 3, NONE, NONE, 53L);
         due("what hangs on it", y.file(5, 1), 1);
-        SealLine many = withTwoFiles();
+        SealLine many = Lines.withTwoFiles();
         for (int i = 0; i < 50; i++) {
             due("recall() of fifty", many.recall(0, 1, 0), 1);
         }
         due("recall 51", many.recall(0, 0, 0), NONE);
         due("recall 51 of a tool", many.recall(1, 2, 0), NONE);
         due("nothing came of it", many.count(7), 1);
-        SealLine tools = withTwoFiles();
+        SealLine tools = Lines.withTwoFiles();
         for (int i = 0; i < 50; i++) {
             due("recall() of fifty tools and hands", tools.recall(1 + i % 2, 5, i), 0);
         }
@@ -542,7 +503,7 @@ public final class PromiseTest {
         due("recall 51 of a hand", tools.recall(2, 0, 0), NONE);
         SealLine full = new SealLine();
         full.source(0, 1L);
-        fillNotes(full, 398);
+        Lines.fillNotes(full, 398);
         full.recall(2, 1, 399);
         full.recall(2, 2, 400);
         full.source(1, 2L);
@@ -551,7 +512,7 @@ public final class PromiseTest {
         due("the last tick", full.recall(2, 2, 399), 1);
         SealLine last = new SealLine();
         last.source(0, 1L);
-        fillNotes(last, 399);
+        Lines.fillNotes(last, 399);
         last.recall(1, 0, 399);
         last.recall(1, 1, 400);
         last.recall(2, 4, 399);
@@ -559,7 +520,7 @@ public final class PromiseTest {
         due("note 400 of another tool and hand", last.count(7), 0);
         due("note 400 of its tool", last.recall(1, 2, 399), 1);
         due("and since an earlier tick", last.recall(1, 2, 0), 1);
-        SealLine twice = withTwoFiles();
+        SealLine twice = Lines.withTwoFiles();
         twice.recall(2, 7, 2);
         twice.recall(2, 7, 300);
         twice.source(7, 20L);
@@ -567,7 +528,7 @@ public final class PromiseTest {
     }
 
     private static void promise19() {
-        SealLine x = withTwoFiles();
+        SealLine x = Lines.withTwoFiles();
         x.build(4, 2, 0, NONE, NONE, x.hash(1));
         x.build(4, 2, 0, NONE, NONE, x.hash(1));
         x.tries(0, 1, true);
@@ -661,20 +622,20 @@ public final class PromiseTest {
         due("find(0)", x.find(0L), 1);
         due("find(1)", x.find(1L), NONE);
         due("find(-2^32)", x.find(-1L << 32), NONE);
-        fillFiles(x);
+        Lines.fillFiles(x);
         due("find() of the last", x.find(5099L), 99);
     }
 
     private static void promise22() {
-        SealLine x = withTwoFiles();
+        SealLine x = Lines.withTwoFiles();
         x.ask(0);
         x.ask(1);
         x.uses(2, 5);
         x.uses(3, 5);
         x.seal(7, 3, 2);
-        feedText(x, "t=0");
+        Lines.feedText(x, "t=0");
         x.rule();
-        feedText(x, "t<1");
+        Lines.feedText(x, "t<1");
         x.rule();
         x.seal(4, 11, 3);
         int[] first = {0, 2, 2, 7, 3, NONE, 1};
@@ -694,7 +655,7 @@ public final class PromiseTest {
     }
 
     private static void promise23() {
-        SealLine x = withTwoFiles();
+        SealLine x = Lines.withTwoFiles();
         x.build(2, 5, 1, 0, 1, 99L);
         x.tries(3, 1, true);
         x.tries(3, 1, false);
@@ -740,11 +701,11 @@ public final class PromiseTest {
         }
         SealLine x = withRule("t=12");
         due("least()", x.least(), 12);
-        feedText(x, "t=0&");
+        Lines.feedText(x, "t=0&");
         due("least() while a tape is fed", x.least(), 12);
         x.rule();
         due("least() by the same rule", x.least(), 12);
-        feedText(x, "r=4");
+        Lines.feedText(x, "r=4");
         x.rule();
         due("least() by the next rule", x.least(), 5);
     }
@@ -756,7 +717,7 @@ public final class PromiseTest {
         }
         SealLine x = withRule("b=7");
         due("makers()", x.makers(), 7);
-        feedText(x, "b=4");
+        Lines.feedText(x, "b=4");
         x.rule();
         due("makers() by the next rule", x.makers(), 4);
     }
@@ -769,7 +730,7 @@ public final class PromiseTest {
     }
 
     private static void promise26() {
-        SealLine x = withTwoFiles();
+        SealLine x = Lines.withTwoFiles();
         dueProof(x, 0, 0);
         dueProof(x, 1, 0, 1);
         x.source(5, x.hash(1));
@@ -803,7 +764,7 @@ public final class PromiseTest {
     }
 
     private static void promise27() {
-        SealLine x = withTwoFiles();
+        SealLine x = Lines.withTwoFiles();
         x.source(5, 20L);
         x.source(6, 30L);
         x.build(6, 0, 1, NONE, NONE, 40L);
@@ -818,7 +779,7 @@ public final class PromiseTest {
         due("called(far)", x.called(FAR), NONE);
         due("called(far below)", x.called(FAR_BELOW), NONE);
         SealLine full = new SealLine();
-        fillFiles(full);
+        Lines.fillFiles(full);
         full.recall(0, 99, 0);
         full.recall(0, 63, 0);
         full.recall(0, 64, 0);
@@ -831,11 +792,11 @@ public final class PromiseTest {
     }
 
     private static void promise28() {
-        SealLine x = withTwoFiles();
+        SealLine x = Lines.withTwoFiles();
         x.source(5, 20L);
-        feedText(x, "t<5");
+        Lines.feedText(x, "t<5");
         x.rule();
-        feedText(x, "t<");
+        Lines.feedText(x, "t<");
         x.uses(0, 9);
         x.ask(2);
         x.ask(1);
@@ -855,7 +816,7 @@ public final class PromiseTest {
     }
 
     private static void promise29() {
-        SealLine x = readyToSeal(5);
+        SealLine x = Lines.readyToSeal(5);
         x.seal(1, 2, 0);
         x.uses(1, 3);
         x.finish(1);
