@@ -158,6 +158,16 @@ public final class RuleEdgeTest {
         check.due("another's", x.why(10, 11, 0), 0);
         x.source(5, 10L);
         check.due("who is a maker since", x.why(10, 11, 0), 6);
+        SealLine y = Lines.withTwoFiles();
+        y.ask(1);
+        y.uses(0, 1);
+        Lines.giveRule(y, "r>0");
+        y.review(0, 1, true);
+        check.due("a maker of what went in", y.why(10, 11, 0), 6);
+        y.review(2, 1, true);
+        check.due("another's of it", y.why(10, 11, 0), 0);
+        y.source(2, 10L);
+        check.due("who made what went in since", y.why(10, 11, 0), 6);
     }
 
     @Says(promise = 0, words = "Blanks (32) may stand between all these, not within numbers")
