@@ -39,8 +39,8 @@ public final class FileEdgeTest {
         }
     }
 
-    @Says(promise = 0, words = "each NOTE (400 at most, numbered as they come) is told on a TICK of its own: "
-        + "its number")
+    @Says(promise = 0, words = "TICKS: each NOTE (400 at most, numbered as they come) is told on a TICK of its own: "
+        + "its number.")
     static void notesOfAllSortsAreNumberedAsTheyCome(Check check) {
         SealLine x = Lines.readyToSeal(9);
         check.due("a try", x.tries(1, 0, true), 1);
@@ -300,7 +300,8 @@ public final class FileEdgeTest {
         }
     }
 
-    @Says(promise = 0, words = "a HAND says of a FILE good or not; its latest TRY (REVIEW) of it counts")
+    @Says(promise = 0, words = "TRY and REVIEW: a HAND says of a FILE good or not; its latest TRY (REVIEW) "
+        + "of it counts.")
     static void theLatestCounts(Check check) {
         SealLine x = Lines.withTwoFiles();
         boolean[] said = {false, true, true, false, false, true};

@@ -53,7 +53,7 @@ public final class RuleEdgeTest {
         return why == 0;
     }
 
-    @Says(promise = 0, words = "TESTS: parts with | between; a part: units with & between")
+    @Says(promise = 0, words = "RULES: bytes: TESTS: parts with | between; a part: units with & between")
     static void nothingMayBeMissingBetween(Check check) {
         dueGood(check, "t=1|r=1", "t=1&r=1", "t=1|r=1|b=1", "t=1&r=1&b=1", "t=1|r=1&b=1|t=2");
         dueFault(check, "|t=1", 0);
@@ -125,7 +125,7 @@ public final class RuleEdgeTest {
         check.due("00 is below all", holds("t>00&r>00&b>00", 1, 1, 1), true);
     }
 
-    @Says(promise = 0, words = "t HANDS whose TRY of it is good; r HANDS, no MAKERS of it, "
+    @Says(promise = 0, words = "Letters of a FILE: t HANDS whose TRY of it is good; r HANDS, no MAKERS of it, "
         + "whose REVIEW of it is good; b unlike HANDS with a BUILD of it that MEETS")
     static void eachSignAtEachNumber(Check check) {
         for (int value = 0; value <= 12; value++) {

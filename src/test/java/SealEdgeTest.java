@@ -39,7 +39,7 @@ public final class SealEdgeTest {
         }
     }
 
-    @Says(promise = 0, words = "FILES in the order in which they were asked for, none twice")
+    @Says(promise = 0, words = "The QUEUE: FILES in the order in which they were asked for, none twice.")
     static void theOrderOfTheQueue(Check check) {
         SealLine x = new SealLine();
         Lines.fillFiles(x);

@@ -1,16 +1,12 @@
 import java.io.IOException;
 import java.lang.reflect.InvocationTargetException;
 import java.lang.reflect.Method;
-import java.nio.file.Files;
-import java.nio.file.Path;
 import java.util.ArrayList;
 import java.util.Comparator;
 import java.util.List;
 
 /** Runs each method of a class that says which words it tests, and fails if the words are not the document's. */
 final class Sentences {
-    private static final Path DOCUMENT = Path.of("..", "shared", "DOC.md");
-
     private Sentences() {
     }
 
@@ -27,10 +23,11 @@ final class Sentences {
     }
 
     static void run(Class<?> tests) throws IOException, ReflectiveOperationException {
+        Document document = new Document();
         int broken = 0;
         List<Method> all = of(tests);
         for (Method test : all) {
-            if (!holds(test)) {
+            if (!holds(document, test)) {
                 broken++;
             }
         }
@@ -40,24 +37,16 @@ final class Sentences {
         }
     }
 
-    private static boolean holds(Method test) throws IOException, ReflectiveOperationException {
+    private static boolean holds(Document document, Method test) throws ReflectiveOperationException {
         Says says = test.getAnnotation(Says.class);
         Check check = new Check((says.promise() == 0 ? "terms" : "promise " + says.promise())
             + ", '" + says.words() + "', " + test.getName());
-        check.due("the words stand there", part(says.promise()).contains(says.words()), true);
+        check.due("the words stand there", document.part(says.promise()).contains(says.words()), true);
         try {
             test.invoke(null, check);
         } catch (InvocationTargetException thrown) {
             check.due("it threw " + thrown.getCause(), true, false);
         }
         return check.passed();
-    }
-
-    /** What the document says from the heading of a promise to the next heading; all ahead of promise 1 for 0. */
-    private static String part(int promise) throws IOException {
-        String text = Files.readString(DOCUMENT).replaceAll("```(text)?", " ");
-        int from = promise == 0 ? 0 : text.indexOf("## Promise " + promise + ":");
-        int to = text.indexOf(promise == 0 ? "## Promise 1:" : "\n## ", from + 1);
-        return from < 0 || to < 0 ? "" : text.substring(from, to).replaceAll("\\s+", " ");
     }
 }
