@@ -518,6 +518,7 @@ public final class FileEdgeTest {
         Lines.fillNotes(x, 399);
         check.due("note 399", x.tries(1, 0, true), 399);
         check.due("good with 400", x.tries(3, 0, true), NONE);
+        check.due("t as it was", x.file(0, 2), 2);
         check.due("not good with 400", x.tries(2, 0, false), NONE);
         check.due("t as it was", x.file(0, 2), 2);
         check.due("notes", x.count(0), 400);
@@ -545,6 +546,7 @@ public final class FileEdgeTest {
         Lines.fillNotes(x, 399);
         check.due("note 399", x.review(1, 0, true), 399);
         check.due("good with 400", x.review(3, 0, true), NONE);
+        check.due("r as it was", x.file(0, 3), 2);
         check.due("not good with 400", x.review(2, 0, false), NONE);
         check.due("r as it was", x.file(0, 3), 2);
         check.due("notes", x.count(0), 400);
